@@ -1,8 +1,10 @@
 import java.util.Random;
 
-/** All promises: runs of 512 calls by fixed seeds, asked of the class and of the model. */
+/** All promises: runs of calls by fixed seeds, asked of the class and of the model. */
 final class ModelTest {
-    private static final int RUNS = 400;
+    private static final int RUNS = 1500;
+    /** What later calls answer is free, so they are not asked. */
+    private static final int MOST_CALLS = 512;
     private static final Check check = new Check();
 
     private final Random random;
@@ -10,6 +12,7 @@ final class ModelTest {
     private final int wildOneIn;
     private final RankBench bench = new RankBench();
     private final Model model = new Model();
+    private int calls;
 
     private ModelTest(int run) {
         random = new Random(run);
@@ -25,9 +28,13 @@ final class ModelTest {
     }
 
     private void callAll(int run) {
-        fill();
-        for (int call = 0; call < 512; call++) {
-            String where = "run " + run + ", call " + call;
+        if (run % 4 == 0) {
+            fillRows();
+        } else if (run % 4 == 1) {
+            fill();
+        }
+        for (; calls + 3 <= MOST_CALLS; calls += 3) {
+            String where = "run " + run + ", call " + calls;
             if (random.nextInt(3) == 0) {
                 change(where);
             } else {
@@ -38,17 +45,38 @@ final class ModelTest {
         }
     }
 
-    /** Long rows are rare by single calls, so a run may begin with some. */
+    private void grade(String where, int question, int document, int grade) {
+        check.due(where + ", grade", bench.grade(question, document, grade), model.grade(question, document, grade));
+    }
+
+    private void rank(String where, int ranker, int question, int document) {
+        check.due(where + ", rank", bench.rank(ranker, question, document), model.rank(ranker, question, document));
+    }
+
+    /** Long rows are rare by single calls: two full rows of each question, and a grade for most documents. */
+    private void fillRows() {
+        for (int question = 0; question < questions; question++) {
+            int good = random.nextInt(25);
+            int start = random.nextInt(24);
+            for (int document = 0; document < 24; document++) {
+                int place = (document * 7 + start) % 24;
+                int grade = place < good ? 1 + random.nextInt(3) : random.nextInt(5) == 0 ? -1 : 0;
+                grade("fill", question, document, grade);
+            }
+            int one = random.nextInt(24);
+            int other = random.nextInt(24);
+            for (int i = 0; i < 16; i++) {
+                rank("fill", 0, question, (one + i * 5) % 24);
+                rank("fill", 1, question, (other + i * 11) % 24);
+            }
+            calls += 24 + 2 * 16;
+        }
+    }
+
     private void fill() {
-        int calls = random.nextInt(3) * 300;
-        for (int i = 0; i < calls; i++) {
-            int question = question();
-            int document = document();
-            int ranker = ranker();
-            int grade = random.nextInt(5) - 1;
-            check.due("fill", bench.grade(question, document, grade), model.grade(question, document, grade));
-            document = document();
-            check.due("fill", bench.rank(ranker, question, document), model.rank(ranker, question, document));
+        for (; calls < 300; calls += 2) {
+            grade("fill", question(), document(), random.nextInt(5) - 1);
+            rank("fill", ranker(), question(), document());
         }
     }
 
@@ -84,10 +112,8 @@ final class ModelTest {
         switch (random.nextInt(12)) {
             case 0 -> check.due(where + ", empty", bench.empty(ranker, question), model.empty(ranker, question));
             case 1 -> check.due(where + ", drop", bench.drop(ranker, question), model.drop(ranker, question));
-            case 2, 3, 4, 5 -> check.due(where + ", grade", bench.grade(question, document, grade),
-                    model.grade(question, document, grade));
-            default -> check.due(where + ", rank", bench.rank(ranker, question, document),
-                    model.rank(ranker, question, document));
+            case 2, 3, 4, 5 -> grade(where, question, document, grade);
+            default -> rank(where, ranker, question, document);
         }
     }
 

@@ -4,18 +4,22 @@ import java.lang.management.ManagementFactory;
 /** All calls of a run live in one room: a call makes no objects, and a new object is small. */
 final class RoomTest {
     private static final int TIMES = 500;
-    // The counter's own cost and what the machine may make beside us; one array of 16 a call would be 40,000.
+    // The counter's own cost and what the machine may make beside us; one array of 16 a round would be 40,000.
     private static final long SLACK = 20_000;
     private static final Check check = new Check();
 
     public static void main(String[] args) {
         ThreadMXBean counter = (ThreadMXBean) ManagementFactory.getThreadMXBean();
-        RankBench x = Samples.eightQuestions();
-        callAll(x);
+        // A new one each time, as an object is asked 512 times at most: 448 calls fill it, one round is left.
+        RankBench[] benches = new RankBench[TIMES];
+        for (int i = 0; i < TIMES; i++) {
+            benches[i] = Samples.eightQuestions();
+        }
+        callAll(Samples.eightQuestions());
         counter.getCurrentThreadAllocatedBytes();
         long before = counter.getCurrentThreadAllocatedBytes();
         for (int i = 0; i < TIMES; i++) {
-            callAll(x);
+            callAll(benches[i]);
         }
         long calls = counter.getCurrentThreadAllocatedBytes() - before;
         check.dueTrue("calls made " + calls + " bytes", calls < SLACK);

@@ -21,19 +21,28 @@ final class Samples {
         return x;
     }
 
-    /** Eight questions whose R have hardly a divisor in common, and full rows of rankers 0 and 1. */
+    /** Eight questions whose R have hardly a divisor in common, and full rows of rankers 0 and 1: 448 calls. */
     static RankBench eightQuestions() {
         RankBench x = new RankBench();
+        fillEight(x::grade, x::rank);
+        return x;
+    }
+
+    static void fillEight(Call grade, Call rank) {
         for (int question = 0; question < 8; question++) {
             for (int document = 0; document < 24; document++) {
-                x.grade(question, document, document < GOOD_ONES[question] ? 1 + document % 3 : 0);
+                grade.ask(question, document, document < GOOD_ONES[question] ? 1 + document % 3 : 0);
             }
             for (int i = 0; i < 16; i++) {
-                x.rank(0, question, (i * 5 + question) % 24);
-                x.rank(1, question, (i * 7 + question + 3) % 24);
+                rank.ask(0, question, (i * 5 + question) % 24);
+                rank.ask(1, question, (i * 7 + question + 3) % 24);
             }
         }
-        return x;
+    }
+
+    /** A call with three numbers, of a bench or of what stands around one. */
+    interface Call {
+        int ask(int first, int second, int third);
     }
 
     static void tell(RankBench x, int ranker, int question, int... documents) {
