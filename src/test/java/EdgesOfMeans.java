@@ -17,6 +17,7 @@ final class EdgesOfMeans {
         meanOfWhichMeasures();
         meanOfEmptyRows();
         meanOfGoodQuestions();
+        meanDividedByZero();
         meanOfUnlikeParts();
         meanOfNone();
         meanRefused();
@@ -28,6 +29,7 @@ final class EdgesOfMeans {
         oddsOfWhatCountsForBoth();
         oddsOfDifferences();
         oddsOfAsMuch();
+        oddsDividedByZero();
         oddsOfOneRanker();
         oddsOfNone();
         oddsRefused();
@@ -36,6 +38,7 @@ final class EdgesOfMeans {
         winsCorners();
         winsDepths();
         winsOfLikeFractions();
+        winsDividedByZero();
         winsOfWhichMeasures();
         winsOfWhatCounts();
         winsOfNone();
@@ -135,6 +138,17 @@ final class EdgesOfMeans {
         shows(x, 2, 1, 2, 0, 0, 1);
         x.grade(1, 23, -1);
         shows(x, 1, 1, 1, 0, 0, 1);
+    }
+
+    /** SURE of rows in which nothing is judged, and of one in which all is. */
+    private void meanDividedByZero() {
+        Asked x = edges.of(12, Edges.DIVIDED_BY_ZERO);
+        x.grade(0, 0, 1);
+        x.row(0, 0, 5, 6);
+        shows(x, 1, 0, 1, 0, 8, 16);
+        x.grade(1, 0, 1);
+        x.row(0, 1, 0);
+        shows(x, 2, 1, 2, 0, 8, 16);
     }
 
     private void meanOfUnlikeParts() {
@@ -328,6 +342,20 @@ final class EdgesOfMeans {
         odds(x, 8, 1, 4, 0, 1);
     }
 
+    /** SURE of a row in which nothing is judged, against one with a bad document and one with a good one. */
+    private void oddsDividedByZero() {
+        Asked x = edges.of(13, Edges.DIVIDED_BY_ZERO);
+        for (int question = 0; question < 2; question++) {
+            x.grades(question, 1, 0);
+            x.row(0, question, 5, 6);
+            x.row(1, question, 1);
+        }
+        odds(x, 2, 1, 1, 8, 16);
+        x.row(1, 0, 0);
+        x.row(1, 1, 0);
+        odds(x, 2, 1, 2, 8, 16);
+    }
+
     private void oddsOfOneRanker() {
         Asked x = edges.of(13, "-3: both RANKERS are one,").standard();
         for (int ranker = 0; ranker < 4; ranker++) {
@@ -467,6 +495,16 @@ final class EdgesOfMeans {
         wins(x, 0, 0, 1, 8, 16);
     }
 
+    private void winsDividedByZero() {
+        Asked x = edges.of(14, Edges.DIVIDED_BY_ZERO);
+        x.grades(0, 1, 0);
+        x.row(0, 0, 5, 6);
+        x.row(1, 0, 1);
+        wins(x, 0, 0, 1, 8, 16);
+        x.row(1, 0, 0);
+        wins(x, 0, 1, 0, 8, 16);
+    }
+
     private void winsOfWhichMeasures() {
         Asked x = edges.of(14, "ODDS of two RANKERS by a MEASURE (but 4, 5)");
         tell(x, 0, 0, true);
@@ -550,6 +588,8 @@ final class EdgesOfMeans {
     private void winsFirstThatFits() {
         Asked x = edges.of(14, Edges.FIRST_THAT_FITS).standard();
         x.due(-1).wins(4, 4, 0, 1, 3);
+        x.due(-1).wins(4, 0, 0, 1, 3);
+        x.due(-1).wins(0, -1, 0, 1, -1);
         x.due(-1).wins(0, 4, 5, 0, 0);
         x.due(-2).wins(0, 0, 4, 1, 0);
         x.due(-2).wins(0, 0, 0, 0, 0);

@@ -100,15 +100,6 @@ final class LaidTest {
         check.due("19: grades none and 0", x.clicks(0, 2, 0, -1), 104);
     }
 
-    /** The n-th draw (from 1) by a seed, of a hundred. */
-    private static int draw(int seed, int n) {
-        long z = seed & 0xffffffffL;
-        for (int i = 0; i < n; i++) {
-            z = (1664525 * z + 1013904223) & 0xffffffffL;
-        }
-        return (int) (z >> 16) % 100;
-    }
-
     /** One document is laid by the first draw, so that the second one tells of a click. */
     private static void clickChances() {
         int[] chances = {20, 10, 30, 60, 90};
@@ -121,11 +112,11 @@ final class LaidTest {
             int below = 0;
             int not = 0;
             for (int seed = 0; seed < 3000; seed++) {
-                if (draw(seed, 2) == chance - 1) {
+                if (Draws.ofHundred(seed, 2) == chance - 1) {
                     below++;
                     check.due("19: just below, grade " + grade, x.clicks(0, 1, 0, seed), 1);
                     check.due("19: just below, the second's", x.clicks(1, 0, 0, seed), 100);
-                } else if (draw(seed, 2) == chance) {
+                } else if (Draws.ofHundred(seed, 2) == chance) {
                     not++;
                     check.due("19: just not below, grade " + grade, x.clicks(0, 1, 0, seed), 0);
                 }
@@ -144,10 +135,11 @@ final class LaidTest {
         int ended = 0;
         int not = 0;
         for (int seed = 0; seed < 3000; seed++) {
-            if (draw(seed, 3) < 90 && draw(seed, 5) < 90 && draw(seed, 4) == 49) {
+            boolean bothClick = Draws.ofHundred(seed, 3) < 90 && Draws.ofHundred(seed, 5) < 90;
+            if (bothClick && Draws.ofHundred(seed, 4) == 49) {
                 ended++;
                 check.due("19: it ends", x.clicks(0, 1, 0, seed), 1);
-            } else if (draw(seed, 3) < 90 && draw(seed, 5) < 90 && draw(seed, 4) == 50) {
+            } else if (bothClick && Draws.ofHundred(seed, 4) == 50) {
                 not++;
                 check.due("19: it goes on", x.clicks(0, 1, 0, seed), 2);
             }
